@@ -301,7 +301,7 @@ public final class EchoLine {
         int dropped = 0;
         for (int i = 0; i < ticks; i++) {
             // Which byte it is does not count: only echoes tell bytes apart, and they are not asked for.
-            if (trial.lineAt(line).dropsTyped(1, trial.time)) {
+            if (!trial.lineAt(line).acceptTyped(1, trial.time)) {
                 dropped++;
             }
             trial.passTick();
@@ -420,7 +420,7 @@ public final class EchoLine {
         remember();
         int dropped = 0;
         for (int i = 0; i < many; i++) {
-            if (now.lineAt(line).dropsTyped(value, now.time)) {
+            if (!now.lineAt(line).acceptTyped(value, now.time)) {
                 dropped++;
             }
         }
@@ -434,7 +434,7 @@ public final class EchoLine {
         remember();
         int dropped = 0;
         for (int i = 0; i < many; i++) {
-            if (now.lineAt(line).dropsOffered(value)) {
+            if (!now.lineAt(line).acceptOffered(value)) {
                 dropped++;
             }
         }
@@ -854,23 +854,23 @@ public final class EchoLine {
             return in.size + out.size;
         }
 
-        /** Types a byte; tells whether it was dropped. */
-        boolean dropsTyped(int value, int time) {
+        /** Types a byte; tells whether it came to IN. */
+        boolean acceptTyped(int value, int time) {
             addToCount(TYPED, 1);
             if (held > 0 || in.size >= capacity) {
                 addToCount(DROPPED, 1);
-                return true;
+                return false;
             }
             in.add(value);
             arrivals.add(time);
             tellStopping();
             echoTyped(value);
-            return false;
+            return true;
         }
 
         private void echoTyped(int value) {
             if (echo == ECHO_EACH) {
-                dropsOffered(value);
+                acceptOffered(value);
             } else if (echo == ECHO_WHOLE) {
                 if (whole.size < MAX_WHOLE) {
                     whole.add(value);
@@ -883,20 +883,20 @@ public final class EchoLine {
 
         private void offerWhole() {
             for (int i = 0; i < whole.size; i++) {
-                dropsOffered(whole.at(i));
+                acceptOffered(whole.at(i));
             }
             whole.clear();
         }
 
-        /** Offers a byte to OUT; tells whether it was dropped there. */
-        boolean dropsOffered(int value) {
+        /** Offers a byte to OUT; tells whether it came there. */
+        boolean acceptOffered(int value) {
             addToCount(OFFERED, 1);
             if (held > 0 || out.size >= capacity) {
                 addToCount(OUT_DROPPED, 1);
-                return true;
+                return false;
             }
             out.add(value);
-            return false;
+            return true;
         }
 
         void tellStopping() {
@@ -1290,7 +1290,7 @@ public final class EchoLine {
         void finish() {
             trunk.left = trunk.lineAt(0).share;
             for (int i = 0; i < typedBytes.size; i++) {
-                trunk.lineAt(typedLines.at(i)).dropsTyped(typedBytes.at(i), 0);
+                trunk.lineAt(typedLines.at(i)).acceptTyped(typedBytes.at(i), 0);
             }
         }
 
