@@ -186,6 +186,8 @@ public final class AheadTest {
         x.lend(1, 0, 1);
         Check.is("a sends in b's turns alone", x.sentIfLent(0, 1), 1);
         Check.is("it lends as before", x.line(0, 9), EchoLine.NONE);
+        x.tick(2);
+        Check.is("those sent before do not count", x.sentIfLent(0, 1), 1);
         Check.raisesArgument("sentIfLent(0, 0)", () -> x.sentIfLent(0, 0));
         Check.raisesIndex("sentIfLent(2, 0)", () -> x.sentIfLent(2, 0));
         Check.raisesIndex("sentIfLent(0, 2)", () -> x.sentIfLent(0, 2));
@@ -195,6 +197,13 @@ public final class AheadTest {
         many.lend(1, 0, 99);
         // In 100 ticks there are two rounds of 54: a sends 9 in b's first turn (at 10 to 18) and in its second.
         Check.is("within 100 ticks", many.sentIfLent(0, 5), 18);
+        EchoLine edge = Check.loaded("line a cap 60 marks 0 60 share 9;line b cap 60 marks 0 60 share 1;"
+            + "line c cap 60 marks 0 60 share 9;lend c to a for 99;");
+        edge.type(0, 1, 60);
+        edge.type(1, 1, 60);
+        edge.pass();
+        // A round is 1 byte of b, 9 of a in c's turn, 9 of b in a's turn: 5 rounds are 95 ticks, and 5 are left.
+        Check.is("in 100 ticks, not more nor less", edge.sentIfLent(0, 1), 49);
     }
 
     private static void bestBorrower() {

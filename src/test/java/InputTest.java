@@ -8,6 +8,8 @@ public final class InputTest {
         truncate();
         loadFillsEverything();
         loadStartsOver();
+        loadBehindQuestions();
+        loadForgetsTheTextBefore();
         loadThatFailsKeepsAll();
         tokens();
         misplacedTokens();
@@ -118,6 +120,52 @@ public final class InputTest {
         Check.is("held of the slot", x.property(7), 1);
     }
 
+    /** Questions are played where texts are built: nothing of them may be left in a text. */
+    private static void loadBehindQuestions() {
+        String first = "line a cap 9 marks 1 3 share 3 echo whole;line b cap 9 marks 1 3 share 3 echo whole;lend b to a for 9;";
+        String second = "line a cap 4 marks 1 3 share 2;line b cap 4 marks 1 3 share 3;";
+        EchoLine x = Check.loaded(first + "type a 1 2 3 4 13 6 7 8 9;type b 1 13 3;");
+        x.tick(4);
+        x.breakLine(1, 50);
+        x.setPaused(0, true);
+        x.sentIn(0, 1);
+        Check.is("load", Check.load(x, second), 2);
+        String fresh = Check.picture(Check.loaded(second));
+        Check.is("all that is", Check.picture(x), fresh.substring(0, fresh.length() - 2) + "50");
+        x.type(0, 1, 2);
+        x.lend(0, 1, 5);
+        x.tick(1);
+        Check.is("nothing was sent in this turn", x.pass(), 1);
+        Check.is("the lend is whole", x.line(0, 10), 5);
+        x.recall(0);
+        x.tick(1);
+        Check.is("wait of the first byte", x.logged(0, 4), 2);
+        Check.is("mean wait", x.meanWait(0), 2.0);
+        Check.is("entries of the log", x.longestRun(), 1);
+        EchoLine middle = Check.loaded(second + "type a 1 2;");
+        middle.lend(0, 1, 5);
+        middle.type(1, 1, 1);
+        middle.tick(1);
+        middle.nextSender();
+        middle.keep(0);
+        middle.fullest();
+        middle.sentIn(1, 0);
+        Check.load(middle, second + "lend a to b for 5;");
+        middle.pass();
+        Check.is("no byte was sent in the first turn of a text", middle.line(0, 10), 5);
+    }
+
+    private static void loadForgetsTheTextBefore() {
+        EchoLine x = new EchoLine();
+        Check.load(x, A + "type a 1 2 3;type c 1;");
+        Check.is("lines", Check.load(x, A + "line b cap 4 marks 1 3 share 2;type b 7 8;"), 2);
+        Check.is("bytes of a", x.line(0, 5), 0);
+        Check.is("bytes of b", x.line(1, 5), 2);
+        Check.load(x, A + "line b cap 4 marks 1 3 share 2;type a 9;");
+        Check.is("bytes of a then", x.line(0, 5), 1);
+        Check.is("bytes of b then", x.line(1, 5), 0);
+    }
+
     private static void loadThatFailsKeepsAll() {
         EchoLine x = Check.loaded(A + "type a 1 2;");
         x.tick(1);
@@ -165,7 +213,12 @@ public final class InputTest {
         for (int end : ends) {
             Check.fails(whole.substring(0, end), 1, end);
         }
-        Check.fails("line line", 1, 5);
+        for (String keyword : "line cap marks share echo none each whole lend to for type".split(" ")) {
+            Check.fails("line " + keyword + " cap", 1, 5);
+            Check.loaded("line " + (keyword + "x").substring(keyword.length() > 5 ? 1 : 0) + " cap 4 marks 1 3 share 2;");
+        }
+        Check.fails("line a cap 4 marks 1 3 share 2,", 1, 30);
+        Check.fails("line a cap 4 marks 1 3 share 2:line", 1, 30);
         Check.fails("line abcdefg cap 4", 1, 5);
         Check.fails("line a 4", 1, 7);
         Check.fails("line a cap cap", 1, 11);

@@ -35,7 +35,9 @@ public final class NumbersTest {
     private static void share() {
         EchoLine x = Check.loaded(THREE + "type a 1;type c 1 2;");
         Check.is("none was sent", x.share(0), 0.0f);
-        x.tick(3);
+        x.tick(1);
+        Check.is("all", x.share(0), 1.0f);
+        x.tick(2);
         Check.is("a third", x.share(0), 1.0f / 3.0f);
         Check.is("two thirds", x.share(2), 2.0f / 3.0f);
         Check.is("none of b", x.share(1), 0.0f);

@@ -21,7 +21,9 @@ public final class OutputTest {
         x.breakLine(0, 2);
         Check.is("held, stopping, paused", Check.output(x, x.writeQueues()), "a:0/0hp word:13/13sp");
         x.setMarks(1, 0, 1);
-        x.tick(2);
+        x.tick(1);
+        Check.is("held for 1 tick yet", Check.output(x, x.writeQueues()), "a:0/0hp word:12/13sp");
+        x.tick(1);
         Check.is("held no more", Check.output(x, x.writeQueues()), "a:0/0p word:11/13sp");
         Check.is("nothing to undo of it", x.undoCount(), 6);
     }

@@ -9,6 +9,7 @@ public final class StateTest {
         whole();
         stops();
         count();
+        waits();
         queued();
         delivered();
         logged();
@@ -122,6 +123,34 @@ public final class StateTest {
         Check.raisesIndex("count(-1, 12)", () -> x.count(-1, 12));
         Check.raisesArgument("count(0, 12)", () -> x.count(0, 12));
         Check.raisesArgument("count(0, -1)", () -> x.count(0, -1));
+    }
+
+    private static void waits() {
+        EchoLine x = Check.loaded(THREE);
+        x.type(2, 1, 1);
+        x.pass();
+        x.breakLine(0, 3);
+        x.lend(2, 1, 1);
+        x.tick(2);
+        x.type(2, 2, 1);
+        x.recall(2);
+        x.tick(1);
+        Check.is("wait of the first byte", x.logged(0, 4), 3);
+        x.tick(1);
+        Check.is("wait of the second byte", x.logged(0, 4), 2);
+        Check.is("the greatest wait stays", x.count(2, 11), 3);
+        Check.is("the mean wait", x.meanWait(2), 2.5);
+        x.type(2, 3, 2);
+        x.tick(2);
+        x.type(2, 3, 1);
+        x.breakLine(2, 1);
+        x.tick(1);
+        x.type(2, 4, 1);
+        x.tick(1);
+        Check.is("wait of a byte behind a break", x.logged(0, 4), 1);
+        Check.is("the greatest wait stays then", x.count(2, 11), 3);
+        Check.is("a line that does not lend, behind its turn", x.line(2, 10), 0);
+        Check.is("nothing lent", x.property(10), 0);
     }
 
     private static void queued() {

@@ -7,6 +7,7 @@ public final class UndoTest {
         keepAndRestore();
         keepIsNotUndone();
         undoOfEachCall();
+        theLogComesBack();
         theLastSix();
         whatUndoLeaves();
         undoAcrossTexts();
@@ -94,6 +95,26 @@ public final class UndoTest {
             same[i].run();
             Check.is("a call without a change can be undone " + i, x.undo(), count);
         }
+    }
+
+    private static void theLogComesBack() {
+        EchoLine x = Check.loaded(TWO);
+        x.tick(3);
+        x.keep(0);
+        String before = Check.picture(x);
+        Check.load(x, "line z cap 5 marks 1 2 share 3;type z 8 9 10;");
+        x.tick(1);
+        x.tick(2);
+        Check.is("another log", x.logged(2, 3), 8);
+        String between = Check.picture(x);
+        x.restore(0);
+        Check.is("the log of the slot", x.logged(0, 3), 2);
+        x.undo();
+        Check.is("the log ahead of restore", Check.picture(x), between);
+        x.undo();
+        x.undo();
+        x.undo();
+        Check.is("the log ahead of the text", Check.picture(x), before);
     }
 
     private static void theLastSix() {
