@@ -1135,9 +1135,23 @@ public final class EchoLine {
     /** Cuts a text into tokens, one at a time. */
     private static final class Tokens {
         static final int END = 0;
-        static final int WORD = 1;
-        static final int NUMBER = 2;
-        static final int SYMBOL = 3;
+        static final int NUMBER = 1;
+        static final int SEMICOLON = 2;
+        static final int OTHER_SYMBOL = 3;
+        static final int NAME = 4;
+        static final int LONG_WORD = 5;
+        static final int LINE = 6;
+        static final int CAP = 7;
+        static final int MARKS = 8;
+        static final int SHARE = 9;
+        static final int ECHO = 10;
+        static final int NONE_WORD = 11;
+        static final int EACH = 12;
+        static final int WHOLE = 13;
+        static final int LEND = 14;
+        static final int TO = 15;
+        static final int FOR = 16;
+        static final int TYPE = 17;
         /** Greater than every number that a text may hold, and small enough to count on. */
         static final int TOO_GREAT = 1000;
 
@@ -1151,13 +1165,9 @@ public final class EchoLine {
             this.text = text;
         }
 
-        void begin() {
-            end = 0;
-            advance();
-        }
-
-        void advance() {
-            start = end;
+        /** Goes to the first token at the offset or behind it. */
+        void goTo(int offset) {
+            start = offset;
             while (start < text.size && isBlank(text.byteAt(start))) {
                 start++;
             }
@@ -1166,47 +1176,73 @@ public final class EchoLine {
             if (start >= text.size) {
                 kind = END;
             } else if (isLetter(first)) {
-                kind = WORD;
-                readWord();
+                readLetters();
+                kind = kindOfWord();
             } else if (isDigit(first)) {
-                kind = NUMBER;
                 readNumber();
             } else {
-                kind = SYMBOL;
+                kind = first == ';' ? SEMICOLON : OTHER_SYMBOL;
                 end++;
             }
         }
 
-        private void readWord() {
+        private void readLetters() {
             while (end < text.size && isLetter(text.byteAt(end))) {
                 end++;
             }
         }
 
+        private int kindOfWord() {
+            if (end - start > MAX_NAME) {
+                return LONG_WORD;
+            }
+            if (holds("line")) {
+                return LINE;
+            }
+            if (holds("cap")) {
+                return CAP;
+            }
+            if (holds("marks")) {
+                return MARKS;
+            }
+            if (holds("share")) {
+                return SHARE;
+            }
+            if (holds("echo")) {
+                return ECHO;
+            }
+            if (holds("none")) {
+                return NONE_WORD;
+            }
+            if (holds("each")) {
+                return EACH;
+            }
+            if (holds("whole")) {
+                return WHOLE;
+            }
+            if (holds("lend")) {
+                return LEND;
+            }
+            if (holds("to")) {
+                return TO;
+            }
+            if (holds("for")) {
+                return FOR;
+            }
+            return holds("type") ? TYPE : NAME;
+        }
+
+        private boolean holds(String word) {
+            return text.holdsWord(start, end, word);
+        }
+
         private void readNumber() {
+            kind = NUMBER;
             number = 0;
             while (end < text.size && isDigit(text.byteAt(end))) {
                 number = Math.min(TOO_GREAT, number * 10 + text.byteAt(end) - '0');
                 end++;
             }
-        }
-
-        boolean isWord(String word) {
-            return kind == WORD && text.holdsWord(start, end, word);
-        }
-
-        boolean isSymbol(char symbol) {
-            return kind == SYMBOL && text.byteAt(start) == symbol;
-        }
-
-        boolean isName() {
-            return kind == WORD && end - start <= MAX_NAME && !isKeyword();
-        }
-
-        private boolean isKeyword() {
-            return isWord("line") || isWord("cap") || isWord("marks") || isWord("share")
-                || isWord("echo") || isWord("none") || isWord("each") || isWord("whole")
-                || isWord("lend") || isWord("to") || isWord("for") || isWord("type");
         }
 
         private static boolean isBlank(int value) {
@@ -1255,6 +1291,8 @@ public final class EchoLine {
         final Queue typedBytes = new Queue();
         final Queue typedLines = new Queue();
         int awaited;
+        /** The line that the token names, NONE if it names none. */
+        int named;
         int lender;
         int borrower;
         int typingLine;
@@ -1269,14 +1307,16 @@ public final class EchoLine {
             typedBytes.clear();
             typedLines.clear();
             trunk.startOver();
-            tokens.begin();
             awaited = FIRST_STATEMENT;
+            tokens.goTo(0);
             for (int i = 0; i < MAX_TEXT && tokens.kind != Tokens.END; i++) {
+                boolean isName = tokens.kind == Tokens.NAME;
+                named = isName ? trunk.numberOfName(tokens.text, tokens.start, tokens.end) : NONE;
                 int code = takeToken();
                 if (code != 0) {
                     return code;
                 }
-                tokens.advance();
+                tokens.goTo(tokens.end);
             }
             return awaited == STATEMENT ? 0 : MISPLACED;
         }
@@ -1296,23 +1336,23 @@ public final class EchoLine {
 
         private int takeToken() {
             switch (awaited) {
-                case FIRST_STATEMENT: return tokens.isWord("line") ? takeStatement() : MISPLACED;
+                case FIRST_STATEMENT: return takeKind(Tokens.LINE, NEW_NAME);
                 case STATEMENT: return takeStatement();
                 case STATEMENT_END: return takeStatementEnd();
                 case NEW_NAME: return takeNewName();
-                case CAP_WORD: return takeWord("cap", CAPACITY);
+                case CAP_WORD: return takeKind(Tokens.CAP, CAPACITY);
                 case CAPACITY: return takeCapacity();
-                case MARKS_WORD: return takeWord("marks", LOW_MARK);
+                case MARKS_WORD: return takeKind(Tokens.MARKS, LOW_MARK);
                 case LOW_MARK: return takeLowMark();
                 case HIGH_MARK: return takeHighMark();
-                case SHARE_WORD: return takeWord("share", SHARE);
+                case SHARE_WORD: return takeKind(Tokens.SHARE, SHARE);
                 case SHARE: return takeShare();
-                case ECHO_WORD: return tokens.isWord("echo") ? takeWord("echo", ECHO) : takeStatementEnd();
+                case ECHO_WORD: return tokens.kind == Tokens.ECHO ? takeKind(Tokens.ECHO, ECHO) : takeStatementEnd();
                 case ECHO: return takeEcho();
                 case LENDER: return takeLender();
-                case TO_WORD: return takeWord("to", BORROWER);
+                case TO_WORD: return takeKind(Tokens.TO, BORROWER);
                 case BORROWER: return takeBorrower();
-                case FOR_WORD: return takeWord("for", TURNS);
+                case FOR_WORD: return takeKind(Tokens.FOR, TURNS);
                 case TURNS: return takeTurns();
                 case TYPING_LINE: return takeTypingLine();
                 case FIRST_BYTE: return takeTypedByte();
@@ -1320,22 +1360,21 @@ public final class EchoLine {
             }
         }
 
+        private int takeKind(int kind, int next) {
+            awaited = next;
+            return tokens.kind == kind ? 0 : MISPLACED;
+        }
+
         private int takeStatement() {
-            if (tokens.isWord("line")) {
+            if (tokens.kind == Tokens.LINE) {
                 awaited = NEW_NAME;
                 return trunk.lineCount < MAX_LINES ? 0 : TOO_MANY;
             }
-            return tokens.isWord("lend") ? takeWord("lend", LENDER) : takeWord("type", TYPING_LINE);
+            return tokens.kind == Tokens.LEND ? takeKind(Tokens.LEND, LENDER) : takeKind(Tokens.TYPE, TYPING_LINE);
         }
 
         private int takeStatementEnd() {
-            awaited = STATEMENT;
-            return tokens.isSymbol(';') ? 0 : MISPLACED;
-        }
-
-        private int takeWord(String word, int next) {
-            awaited = next;
-            return tokens.isWord(word) ? 0 : MISPLACED;
+            return takeKind(Tokens.SEMICOLON, STATEMENT);
         }
 
         private int takeNumber(int lowest, int highest, int next) {
@@ -1346,16 +1385,12 @@ public final class EchoLine {
             return tokens.number < lowest || tokens.number > highest ? OUT_OF_RANGE : 0;
         }
 
-        private int numberOfToken() {
-            return trunk.numberOfName(tokens.text, tokens.start, tokens.end);
-        }
-
         private int takeNewName() {
             awaited = CAP_WORD;
-            if (!tokens.isName()) {
+            if (tokens.kind != Tokens.NAME) {
                 return MISPLACED;
             }
-            if (numberOfToken() != NONE) {
+            if (named != NONE) {
                 return NAME_TAKEN;
             }
             trunk.lineCount++;
@@ -1389,40 +1424,39 @@ public final class EchoLine {
 
         private int takeEcho() {
             awaited = STATEMENT_END;
-            if (tokens.isWord("none")) {
-                latestLine().echo = ECHO_NONE;
-            } else if (tokens.isWord("each")) {
-                latestLine().echo = ECHO_EACH;
-            } else if (tokens.isWord("whole")) {
-                latestLine().echo = ECHO_WHOLE;
-            } else {
-                return MISPLACED;
+            switch (tokens.kind) {
+                case Tokens.NONE_WORD:
+                    latestLine().echo = ECHO_NONE;
+                    return 0;
+                case Tokens.EACH:
+                    latestLine().echo = ECHO_EACH;
+                    return 0;
+                case Tokens.WHOLE:
+                    latestLine().echo = ECHO_WHOLE;
+                    return 0;
+                default:
+                    return MISPLACED;
             }
-            return 0;
         }
 
-        /** The error of a token where the name of a line told ahead must stand; that line's number is given. */
-        private int errorOfKnownName(int number) {
-            if (!tokens.isName()) {
+        /** Takes the name of a line told ahead; the field named is that line then. */
+        private int takeKnownName(int next) {
+            awaited = next;
+            if (tokens.kind != Tokens.NAME) {
                 return MISPLACED;
             }
-            return number == NONE ? NAME_UNKNOWN : 0;
+            return named == NONE ? NAME_UNKNOWN : 0;
         }
 
         private int takeLender() {
-            awaited = TO_WORD;
-            lender = numberOfToken();
-            int code = errorOfKnownName(lender);
-            if (code == 0 && trunk.lineAt(lender).lendsTo != NONE) {
-                return NAME_TAKEN;
-            }
-            return code;
+            lender = named;
+            int code = takeKnownName(TO_WORD);
+            return code == 0 && trunk.lineAt(lender).lendsTo != NONE ? NAME_TAKEN : code;
         }
 
         private int takeBorrower() {
-            awaited = FOR_WORD;
-            borrower = numberOfToken();
-            int code = errorOfKnownName(borrower);
+            borrower = named;
+            int code = takeKnownName(FOR_WORD);
             return code == 0 && borrower == lender ? NAME_TAKEN : code;
         }
 
@@ -1432,9 +1466,8 @@ public final class EchoLine {
         }
 
         private int takeTypingLine() {
-            awaited = FIRST_BYTE;
-            typingLine = numberOfToken();
-            return errorOfKnownName(typingLine);
+            typingLine = named;
+            return takeKnownName(FIRST_BYTE);
         }
 
         private int takeTypedByte() {

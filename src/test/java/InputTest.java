@@ -9,6 +9,8 @@ public final class InputTest {
         loadFillsEverything();
         loadStartsOver();
         loadBehindQuestions();
+        loadBehindIdleTicks();
+        loadOfFewerLines();
         loadForgetsTheTextBefore();
         loadThatFailsKeepsAll();
         tokens();
@@ -153,6 +155,41 @@ public final class InputTest {
         Check.load(middle, second + "lend a to b for 5;");
         middle.pass();
         Check.is("no byte was sent in the first turn of a text", middle.line(0, 10), 5);
+    }
+
+    private static void loadBehindIdleTicks() {
+        EchoLine x = Check.loaded(A);
+        x.tick(9);
+        x.type(0, 1, 2);
+        x.sentIn(0, 0);
+        Check.load(x, A + "type a 7;");
+        Check.is("idle ticks", x.property(6), 0);
+        x.tick(1);
+        Check.is("wait of the first byte", x.logged(0, 4), 1);
+    }
+
+    private static void loadOfFewerLines() {
+        EchoLine x = Check.loaded(A + "line b cap 4 marks 1 3 share 2;line c cap 4 marks 1 3 share 2;lend b to c for 2;"
+            + "type b 1 2 3;type c 1 2 3 4 5;");
+        x.tick(2);
+        x.setPaused(1, true);
+        x.reply(1, 1, 3);
+        x.breakLine(2, 9);
+        x.type(1, 1, 4);
+        Check.load(x, A);
+        for (int what = 7; what <= 10; what++) {
+            Check.is("set of lines " + what, x.property(what), 0);
+        }
+        for (int what = 0; what <= 11; what++) {
+            Check.is("sum " + what, x.sum(what), 0);
+        }
+        Check.is("fullest", x.fullest(), 0);
+        Check.is("busiest", x.busiest(), EchoLine.NONE);
+        Check.is("quietIn", x.quietIn(), 0);
+        Check.is("queues", Check.output(x, x.writeQueues()), "a:0/0");
+        Check.give(x, "b");
+        Check.is("find of a line that is no more", x.find(), EchoLine.NONE);
+        Check.raisesIndex("a line that is no more", () -> x.line(1, 0));
     }
 
     private static void loadForgetsTheTextBefore() {
