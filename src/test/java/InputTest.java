@@ -15,6 +15,7 @@ public final class InputTest {
         loadThatFailsKeepsAll();
         tokens();
         misplacedTokens();
+        otherKeywords();
         numbersOutOfRange();
         names();
         tooMany();
@@ -169,9 +170,10 @@ public final class InputTest {
     }
 
     private static void loadOfFewerLines() {
-        EchoLine x = Check.loaded(A + "line b cap 4 marks 1 3 share 2;line c cap 4 marks 1 3 share 2;lend b to c for 2;"
+        EchoLine x = Check.loaded(A + "line b cap 4 marks 1 3 share 2;line c cap 4 marks 1 3 share 2;"
             + "type b 1 2 3;type c 1 2 3 4 5;");
         x.tick(2);
+        x.lend(1, 2, 2);
         x.setPaused(1, true);
         x.reply(1, 1, 3);
         x.breakLine(2, 9);
@@ -287,6 +289,25 @@ public final class InputTest {
         Check.fails(two + "lend a to b for b", 1, 78);
         Check.fails(two + "lend a to b for 1 2", 1, 80);
         Check.fails(two + "lend a to b for 1", 1, 79);
+    }
+
+    private static void otherKeywords() {
+        String text = "line a cap 4 marks 1 3 share 2 echo each;line b cap 4 marks 1 3 share 2;lend a to b for 1;";
+        for (String keyword : "cap marks share each to for".split(" ")) {
+            int start = text.indexOf(keyword);
+            for (String other : "line cap marks share echo none each whole lend to for type x".split(" ")) {
+                boolean fits = other.equals(keyword) || keyword.equals("each") && "none whole".contains(other);
+                if (!fits) {
+                    Check.fails(text.substring(0, start) + other + text.substring(start + keyword.length()), 1, start);
+                }
+            }
+        }
+        for (String other : "cap marks share echo none each whole to for x xxxxxxx".split(" ")) {
+            Check.fails(A + other + " a", 1, A.length());
+        }
+        for (String other : "line cap marks share none each whole lend to for type x".split(" ")) {
+            Check.fails(A.substring(0, 30) + " " + other + " each;", 1, 31);
+        }
     }
 
     private static void numbersOutOfRange() {
