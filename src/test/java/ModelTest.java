@@ -8,7 +8,8 @@ import java.util.Random;
 /** Long runs of calls, by fixed seeds, on an EchoLine and on the Model: every answer and every exception must agree. */
 public final class ModelTest {
     private static final int RUNS = 1500;
-    private static final int CALLS = 500;
+    /** What one step more may need, an output or a text, stays within the 512 calls for which an object is promised to answer. */
+    private static final int CALLS = 415;
     private static final int[] ODD = {-1, 0, 1, 2, 3, 6, 7, 10, 11, 12, 13, 40, 60, 61, 99, 100, 101, 127, 128, 200, 201, 500,
         501, 1000, Integer.MAX_VALUE, Integer.MIN_VALUE, Integer.MIN_VALUE + 1, 256, 65536, -128};
 
@@ -117,6 +118,7 @@ public final class ModelTest {
     }
 
     private int line() {
+        calls++;
         int lines = subject.property(0);
         return random.nextInt(20) == 0 ? random.nextInt(8) - 1 : random.nextInt(lines);
     }
@@ -204,6 +206,7 @@ public final class ModelTest {
     }
 
     private boolean sameOutput(int length) {
+        calls += length + 1;
         for (int i = 0; i <= length; i++) {
             if (!answer(subject, "outputByte", i).equals(answer(model, "outputByte", i))) {
                 return false;

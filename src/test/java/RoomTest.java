@@ -23,11 +23,11 @@ public final class RoomTest {
         Check.is("elements of a new one", first.elements * 512 < 7300000, true);
         EchoLine x = Check.loaded(SIX);
         RoomTest used = null;
-        for (int calls = 24; calls < 500; calls++) {
-            x.keep(calls % 2);
-            x.type(calls % 6, 13, 60);
+        for (int round = 0; round < 160; round++) {
+            x.keep(round % 2);
+            x.type(round % 6, 13, 60);
             x.tick(1);
-            if (calls == 60) {
+            if (round == 12) {
                 used = measured(x);
             }
         }

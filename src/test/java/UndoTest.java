@@ -69,30 +69,40 @@ public final class UndoTest {
         Check.is("its lines", x.property(0), 2);
     }
 
-    private static void undoOfEachCall() {
+    private interface Change {
+        void of(EchoLine x);
+    }
+
+    private static EchoLine busy() {
         EchoLine x = Check.loaded(TWO);
         x.tick(2);
         x.breakLine(1, 4);
         x.keep(1);
         x.tick(1);
         x.type(0, 50, 3);
-        String before = Check.picture(x);
-        int count = x.undoCount();
-        Check.Call[] calls = {() -> Check.load(x, "line z cap 5 marks 1 2 share 3;type z 8;"), () -> x.type(0, 13, 9),
-            () -> x.reply(0, 5, 9), () -> x.tick(200), () -> x.lend(0, 1, 4), () -> x.recall(1), () -> x.breakLine(0, 5),
-            () -> x.setPaused(0, true), () -> x.setEcho(0, 0), () -> x.setMarks(0, 4, 5), () -> x.setShare(0, 7),
-            x::pass, () -> x.restore(1)};
+        return x;
+    }
+
+    private static void undoOfEachCall() {
+        String before = Check.picture(busy());
+        int count = busy().undoCount();
+        Change[] calls = {x -> Check.load(x, "line z cap 5 marks 1 2 share 3;type z 8;"), x -> x.type(0, 13, 9),
+            x -> x.reply(0, 5, 9), x -> x.tick(200), x -> x.lend(0, 1, 4), x -> x.recall(1), x -> x.breakLine(0, 5),
+            x -> x.setPaused(0, true), x -> x.setEcho(0, 0), x -> x.setMarks(0, 4, 5), x -> x.setShare(0, 7),
+            EchoLine::pass, x -> x.restore(1)};
         for (int i = 0; i < calls.length; i++) {
-            calls[i].run();
+            EchoLine x = busy();
+            calls[i].of(x);
             Check.is("changed by call " + i, Check.picture(x).equals(before), false);
             Check.is("undoCount behind call " + i, x.undoCount(), count + 1);
             Check.is("undo of call " + i, x.undo(), count);
             Check.is("state behind undo of call " + i, Check.picture(x), before);
         }
-        Check.Call[] same = {() -> x.recall(0), () -> x.setPaused(0, false), () -> x.setEcho(0, 2), () -> x.setMarks(0, 1, 4),
-            () -> x.setShare(0, 2)};
+        Change[] same = {x -> x.recall(0), x -> x.setPaused(0, false), x -> x.setEcho(0, 2), x -> x.setMarks(0, 1, 4),
+            x -> x.setShare(0, 2)};
         for (int i = 0; i < same.length; i++) {
-            same[i].run();
+            EchoLine x = busy();
+            same[i].of(x);
             Check.is("a call without a change can be undone " + i, x.undo(), count);
         }
     }
