@@ -1,5 +1,3 @@
-import java.lang.reflect.InvocationTargetException;
-import java.lang.reflect.Method;
 import java.util.ArrayList;
 import java.util.List;
 
@@ -8,8 +6,6 @@ import java.util.List;
  * with the exception that is due, that named first if several apply, and a refused call changes nothing at all.
  */
 public final class RefusedTest {
-    private static final String RICH = "line ab cap 6 marks 1 4 share 2 echo whole;line c cap 4 marks 0 2 share 1 echo each;"
-        + "line d cap 9 marks 3 5 share 1;lend c to ab for 3;type ab 1 2 13 4;type c 3;type d 5;";
     private static final Class<?> INDEX = IndexOutOfBoundsException.class;
     private static final Class<?> ARGUMENT = IllegalArgumentException.class;
     private static final Class<?> STATE = IllegalStateException.class;
@@ -90,7 +86,7 @@ public final class RefusedTest {
     private static String untouched;
 
     public static void main(String[] args) {
-        untouched = everything("nothing", x -> { });
+        untouched = Rich.everything(x -> { });
         Check.is("what is looked at is told in full", untouched.length() > 500, true);
         for (RefusedTest row : ALL) {
             row.takesWhatIsInRange();
@@ -108,90 +104,16 @@ public final class RefusedTest {
         Check.finish();
     }
 
-    private static EchoLine rich() {
-        EchoLine x = new EchoLine();
-        Check.load(x, RICH);
-        x.tick(2);
-        x.setPaused(1, true);
-        x.keep(0);
-        x.type(0, 9, 1);
-        x.breakLine(2, 7);
-        x.writeQueues();
-        Check.load(x, "line ab cap 3");
-        Check.give(x, "ab");
-        return x;
-    }
-
-    private interface Asked {
-        void of(EchoLine x);
-    }
-
-    /** All that can be told of a rich object behind a call; on three objects, so that none gets more than 512 calls. */
-    private static String everything(String what, Asked call) {
-        EchoLine first = rich();
-        call.of(first);
-        StringBuilder text = new StringBuilder(Check.picture(first));
-        text.append('\n').append(first.errorCode()).append(' ').append(first.errorPosition()).append('\n');
-        for (int i = 0; i < 100 && thrownBy(first, "outputByte", i) == null; i++) {
-            text.append((char) first.outputByte(i));
-        }
-        EchoLine second = rich();
-        call.of(second);
-        for (int i = 0; i < 8; i++) {
-            Class<?> thrown = thrownBy(second, "undo");
-            text.append('\n').append(thrown).append(small(second));
-        }
-        EchoLine third = rich();
-        call.of(third);
-        text.append(thrownBy(third, "restore", 1)).append(small(third));
-        text.append(thrownBy(third, "restore", 0)).append(small(third));
-        text.append(thrownBy(third, "truncate", 3)).append(third.find());
-        return text.toString();
-    }
-
-    private static String small(EchoLine x) {
-        StringBuilder text = new StringBuilder();
-        for (int what = 0; what <= 10; what++) {
-            text.append(x.property(what)).append(' ');
-        }
-        for (int line = 0; line < x.property(0); line++) {
-            text.append(x.line(line, 3)).append(x.line(line, 5)).append(x.line(line, 6)).append(x.line(line, 8));
-            text.append(x.count(line, 0)).append('/').append(x.count(line, 4)).append(' ');
-        }
-        return text.toString();
-    }
-
-    private static Method named(String name) {
-        for (Method m : EchoLine.class.getDeclaredMethods()) {
-            if (m.getName().equals(name) && java.lang.reflect.Modifier.isPublic(m.getModifiers())) {
-                return m;
-            }
-        }
-        throw new IllegalStateException(name);
-    }
-
-    /** The class of the exception that a call throws, null if it throws none. */
-    private static Class<?> thrownBy(EchoLine x, String name, Object... values) {
-        try {
-            named(name).invoke(x, values);
-            return null;
-        } catch (InvocationTargetException e) {
-            return e.getCause().getClass();
-        } catch (IllegalAccessException e) {
-            throw new IllegalStateException(e);
-        }
-    }
-
     private static void refused(Class<?> due, String name, Object... values) {
         String call = name + java.util.Arrays.toString(values);
-        Check.is(call + " throws", String.valueOf(thrownBy(rich(), name, values)), String.valueOf(due));
-        Check.is("behind " + call, everything(call, x -> thrownBy(x, name, values)), untouched);
+        Check.is(call + " throws", String.valueOf(Rich.thrownBy(Rich.made(), name, values)), String.valueOf(due));
+        Check.is("behind " + call, Rich.everything(x -> Rich.thrownBy(x, name, values)), untouched);
     }
 
     private static void taken(int undone, String name, Object... values) {
-        EchoLine x = rich();
+        EchoLine x = Rich.made();
         int before = x.undoCount();
-        Check.is(name + java.util.Arrays.toString(values) + " throws", String.valueOf(thrownBy(x, name, values)), "null");
+        Check.is(name + java.util.Arrays.toString(values) + " throws", String.valueOf(Rich.thrownBy(x, name, values)), "null");
         Check.is(name + java.util.Arrays.toString(values) + " can be undone", x.undoCount(), before + undone);
     }
 
@@ -250,7 +172,7 @@ public final class RefusedTest {
 
     private static void queuedAndPaused() {
         // ab has 13 4 of the text, and 9; OUT has the last of 1 2 13, of which 2 were delivered; c has 3 yet, its echo is gone.
-        EchoLine x = rich();
+        EchoLine x = Rich.made();
         for (int line = 0; line < 3; line++) {
             for (boolean out : new boolean[] {false, true}) {
                 int size = x.line(line, out ? 6 : 5);
@@ -326,7 +248,7 @@ public final class RefusedTest {
         }
         Check.raisesState("undo of a new object", x::undo);
         Check.is("nothing can be undone then", x.undoCount(), 0);
-        EchoLine done = rich();
+        EchoLine done = Rich.made();
         while (done.undoCount() > 0) {
             done.undo();
         }
@@ -335,7 +257,7 @@ public final class RefusedTest {
         Check.is("behind undo of nothing", Check.picture(done), before);
         Check.raisesArgument("the input buffer has 2 bytes", () -> done.truncate(3));
         done.truncate(2);
-        Check.is("behind an append to 381 bytes", everything("append", y -> {
+        Check.is("behind an append to 381 bytes", Rich.everything(y -> {
             y.truncate(0);
             Check.give(y, " ".repeat(381));
             Check.raisesState("append to 381 bytes", () -> y.append(0x61626364, 0, 0, 0, 0));
@@ -348,11 +270,11 @@ public final class RefusedTest {
 
     /** Then only the buffer and the parse error change. */
     private static void loadWithAnError() {
-        String[] texts = {"", "x", "line z cap 61", RICH.substring(0, RICH.length() - 1), RICH + "line ab", RICH + "lend d to x"};
+        String[] texts = {"", "x", "line z cap 61", Rich.TEXT.substring(0, Rich.TEXT.length() - 1), Rich.TEXT + "line ab", Rich.TEXT + "lend d to x"};
         int[] codes = {1, 1, 2, 1, 3, 4};
         for (int i = 0; i < texts.length; i++) {
             String text = texts[i];
-            String behind = everything(text, x -> {
+            String behind = Rich.everything(x -> {
                 x.truncate(0);
                 Check.give(x, text);
                 Check.is("load of " + text, x.load(), EchoLine.PARSE_ERROR);
@@ -400,15 +322,15 @@ public final class RefusedTest {
             values[1 - i] = 0;
         }
         values[i] = many;
-        Check.is(method + " of line " + many + " of " + many, String.valueOf(thrownBy(Check.loaded(text), method, values)),
+        Check.is(method + " of line " + many + " of " + many, String.valueOf(Rich.thrownBy(Check.loaded(text), method, values)),
             String.valueOf(INDEX));
         values[i] = many - 1;
-        Check.is(method + " of the last of " + many, String.valueOf(thrownBy(Check.loaded(text), method, values)),
+        Check.is(method + " of the last of " + many, String.valueOf(Rich.thrownBy(Check.loaded(text), method, values)),
             String.valueOf(two && many == 1 ? ARGUMENT : null));
     }
 
     private static void linesThatAreNoMore() {
-        EchoLine x = Check.loaded(RICH);
+        EchoLine x = Check.loaded(Rich.TEXT);
         x.keep(1);
         x.line(2, 0);
         x.undo();
@@ -428,7 +350,7 @@ public final class RefusedTest {
             "longestRun", "undoCount", "writeQueues", "writeLog"}) {
             taken(0, name);
         }
-        EchoLine x = rich();
+        EchoLine x = Rich.made();
         int before = x.undoCount();
         x.append(1, 2, 3, 4, 5);
         Check.is("append cannot be undone", x.undoCount(), before);
