@@ -11,6 +11,7 @@ public final class TurnEdgesTest {
         lentTurnsFrom1To99();
         onlyTurnsWithAByteCount();
         aTurnCountsOnce();
+        whatIsCalledWithinATurn();
         senderAtOnce();
         recallOfNoneAndOf99();
         shareOf1AndOf9();
@@ -219,6 +220,33 @@ public final class TurnEdgesTest {
         Check.is("the 9th ends it", x.line(0, 10), 4);
         Check.is("9 bytes were sent in a's turn", x.count(1, 10), 9);
         Check.is("turn", x.property(2), 1);
+    }
+
+    private interface Change {
+        void of(EchoLine x);
+    }
+
+    /** A byte was sent in this turn, whatever was called behind it, until the turn passes on. */
+    private static void whatIsCalledWithinATurn() {
+        Change[] changes = {x -> x.recall(0), x -> x.lend(0, 1, 9), x -> x.type(0, 13, 9), x -> x.reply(0, 1, 1),
+            x -> x.breakLine(0, 5), x -> x.breakLine(1, 5), x -> x.setPaused(0, true), x -> x.setEcho(0, 1),
+            x -> x.setMarks(0, 0, 1), x -> x.setShare(0, 1), x -> x.setShare(1, 9), x -> x.sentIn(0, 500), x -> x.keep(0),
+            x -> x.find(), x -> x.writeLog(), x -> Check.load(x, "line a")};
+        for (int i = 0; i < changes.length; i++) {
+            EchoLine x = Check.loaded(lines(3, 2) + "type a 1;");
+            x.tick(1);
+            changes[i].of(x);
+            Check.is("the turn stays, call " + i, x.property(2), 0);
+            Check.is("the bytes left stay, call " + i, x.property(4), 2);
+            x.lend(0, 1, 5);
+            x.pass();
+            Check.is("a turn with a byte, call " + i, x.line(0, 10), 4);
+            EchoLine y = Check.loaded(lines(3, 2) + "type a 1;");
+            changes[i].of(y);
+            y.lend(0, 1, 5);
+            y.pass();
+            Check.is("a turn without one, call " + i, y.line(0, 10), 5);
+        }
     }
 
     private static void senderAtOnce() {
